@@ -81,6 +81,7 @@ public final class ModelTest {
   private static final class Feeder {
     private final Random r;
     private String rest = "";
+    private final List<int[]> planned = new ArrayList<>();
 
     Feeder(Random r) {
       this.r = r;
@@ -114,7 +115,13 @@ public final class ModelTest {
         rest = rest.substring(1);
         return letter == 'L' ? new int[] {6} : new int[] {5, letter};
       }
-      switch (r.nextInt(60)) {
+      if (!planned.isEmpty()) {
+        return planned.remove(0);
+      }
+      switch (r.nextInt(63)) {
+        case 60: return card(m, r.nextInt(3));
+        case 61: return row(r.nextInt(3), n, 2 * r.nextInt(24));
+        case 62: return row(r.nextInt(3), 2, r.nextInt(11));
         case 0: return new int[] {1, near(0, 9)};
         case 1: return new int[] {2, near(0, 5), near(0, 6), near(1, 10)};
         case 2: case 3: case 4: case 5: case 6: case 7: {
@@ -173,6 +180,40 @@ public final class ModelTest {
     private int[] put(int n) {
       int v = r.nextInt(10) == 0 ? r.nextInt() : r.nextInt(Math.max(1, n));
       return new int[] {35, r.nextInt(3) != 0 ? r.nextInt(3) : near(0, 5), r.nextBoolean() ? r.nextInt(9) : near(0, 59), v};
+    }
+
+    /** A card whose matches mostly can be held, and some calls that read it. */
+    private int[] card(Model m, int shelf) {
+      int n = m.skill.size();
+      List<Integer> order = new ArrayList<>();
+      for (int i = 0; i < n; i++) {
+        order.add(i);
+      }
+      java.util.Collections.shuffle(order, r);
+      int length = r.nextInt(8) == 0 ? r.nextInt(n + 1) : n / 3 * 3;
+      for (int i = 0; i < length; i++) {
+        planned.add(new int[] {35, shelf, i, order.get(i)});
+        if (i % 3 == 2 && r.nextInt(4) != 0) {
+          planned.add(new int[] {3, order.get(i), 2, r.nextInt(128) * 2 + 1});
+        }
+      }
+      for (int i = r.nextInt(6); i > 0; i--) {
+        int days = 1 + r.nextInt(4);
+        planned.add(new int[] {10 + r.nextInt(2), shelf});
+        planned.add(new int[] {12, shelf, days, 0, 2 + r.nextInt(2)});
+        planned.add(new int[] {12, shelf, days, r.nextInt(n), r.nextInt(2)});
+        planned.add(new int[] {21, r.nextInt(), shelf, 100 * (1 + r.nextInt(30)) + 1 + r.nextInt(20), r.nextInt(n + 1) - 1});
+      }
+      return new int[] {34, shelf, 0, length};
+    }
+
+    private int[] row(int shelf, int below, int length) {
+      for (int i = 0; i < length; i++) {
+        planned.add(new int[] {35, shelf, i, r.nextInt(30) == 0 ? -1 : r.nextInt(below)});
+      }
+      planned.add(new int[] {15, shelf, r.nextInt(below + 1) - 1});
+      planned.add(new int[] {16, shelf});
+      return new int[] {34, shelf, 0, length};
     }
 
     static String text(Random r) {

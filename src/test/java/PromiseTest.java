@@ -225,6 +225,11 @@ public final class PromiseTest {
     due("ends too early", x.law(), -220);
     due("as long as can be", text(x, times("0+", 59) + "11"), 1);
     due("odds", x.odds(12), 11);
+    due("no byte of it without a part in it", text(x, "!0" + times("+0", 57) + "+7-1"), 1);
+    due("odds", x.odds(12), 7);
+    due("as many lines as can be", text(x, times("0?0;", 29) + "0?9;"), -220);
+    due("as many lines as can be", text(x, times("0?0;", 29) + "0?0"), 1);
+    due("none counts", x.odds(12), 0);
     due("a law is no change", x.undo(), STATE);
   }
 
@@ -385,6 +390,8 @@ public final class PromiseTest {
     due("one who judged ends it", x.held(0), 1);
     row(x, 0, 0, 0, 1, 2, 3, 4);
     due("a piece of a three", x.held(0), 1);
+    row(x, 0, 0, 3, 4);
+    due("a missing umpire is not 0", x.held(0), 0);
     row(x, 0, 0);
     due("an empty row", x.held(0), 0);
     due("nothing changed", x.of(0, 3), 0);
@@ -411,6 +418,10 @@ public final class PromiseTest {
     row(x, 1, 0, 3, 0, 1);
     x.mend(3, 0, 0);
     due("he loses", x.behind(1, 1, 3, 0), 1);
+    for (int seed = 0; seed < 12; seed++) {
+      x.mend(0, 5, 1000 * seed);
+      due("by odds, whatever the seed", x.behind(0, 1, 1, 0) + x.behind(1, 1, 3, 0), 3 + 1);
+    }
     due("the umpire did not", x.behind(1, 2, 0, 3), 1);
     text(x, "d*6");
     due("by the day", x.behind(1, 1, 0, 2), 8);
@@ -880,8 +891,8 @@ public final class PromiseTest {
     promise = 30;
     for (int left = 39; left >= 0; left--) {
       due("redo", x.redo(), left);
+      due("grudge", x.of(0, 1), 45 - left);
     }
-    due("grudge", x.of(0, 1), 45);
     due("redo", x.redo(), STATE);
     due("forty", x.count(3), 40);
   }
