@@ -117,7 +117,7 @@ public final class UmpireLost {
   // ---- cards
 
   public int held(int shelf) {
-    int refusal = refusal(shelf, BYTES);
+    int refusal = bytesRefusal(shelf);
     if (refusal != 0) {
       return refusal;
     }
@@ -127,7 +127,7 @@ public final class UmpireLost {
   }
 
   public int loses(int shelf) {
-    int refusal = refusal(shelf, BYTES);
+    int refusal = bytesRefusal(shelf);
     if (refusal != 0) {
       return refusal;
     }
@@ -142,7 +142,7 @@ public final class UmpireLost {
     if (!isShelf(shelf) || n < 0 || n > 20 || !(ofOne && yard.has(one) || ofAll && one == 0)) {
       return BAD;
     }
-    int refusal = refusal(shelf, BYTES);
+    int refusal = bytesRefusal(shelf);
     if (refusal != 0) {
       return refusal;
     }
@@ -205,7 +205,7 @@ public final class UmpireLost {
     if (!isShelf(shelf) || k < -1) {
       return BAD;
     }
-    int refusal = refusal(shelf, BYTES);
+    int refusal = bytesRefusal(shelf);
     if (refusal != 0) {
       return refusal;
     }
@@ -218,7 +218,7 @@ public final class UmpireLost {
   }
 
   public int ring(int shelf) {
-    int refusal = refusal(shelf, BYTES);
+    int refusal = bytesRefusal(shelf);
     if (refusal != 0) {
       return refusal;
     }
@@ -228,7 +228,7 @@ public final class UmpireLost {
   }
 
   public long thrownBy(int shelf, int abu, int part) {
-    if (refusal(shelf, BYTES) != 0 || !isThree(abu) || !isPart(part)) {
+    if (bytesRefusal(shelf) != 0 || !isThree(abu) || !isPart(part)) {
       return Long.MIN_VALUE;
     }
     int wins = text.oddsOn(yard, abu / 100, abu / 10 % 10, abu % 10);
@@ -275,8 +275,7 @@ public final class UmpireLost {
     }
     trial.begin(yard);
     turns.begin(abu);
-    int first = turns.bestFirst(n);
-    return what == 0 ? turns.behindMove(first, n) : first;
+    return what == 0 ? turns.bestOdds(n) : turns.bestFirst(n);
   }
 
   public int drawn(int seed, int shelf, int nm, int one) {
@@ -284,7 +283,7 @@ public final class UmpireLost {
     if (!isShelf(shelf) || seasons < 1 || seasons > 30 || days < 1 || days > 20 || one != -1 && !yard.has(one)) {
       return BAD;
     }
-    int refusal = refusal(shelf, BYTES);
+    int refusal = bytesRefusal(shelf);
     if (refusal != 0) {
       return refusal;
     }
@@ -487,8 +486,8 @@ public final class UmpireLost {
     }
   }
 
-  /** 0 if the shelf holds a row of that sort, else what is answered. */
-  private int refusal(int shelf, int sort) {
+  /** 0 if the shelf holds a row of bytes, else what is answered. */
+  private int bytesRefusal(int shelf) {
     if (!isShelf(shelf)) {
       return BAD;
     }
@@ -496,7 +495,7 @@ public final class UmpireLost {
     if (holds == HOLDS_NOTHING) {
       return NOTHING_THERE;
     }
-    return holds == sort ? 0 : OTHER_KIND;
+    return holds == BYTES ? 0 : OTHER_KIND;
   }
 
   /** 0 if the shelf holds a row, of any sort, that has the place, else what is answered. */
@@ -504,14 +503,14 @@ public final class UmpireLost {
     if (!isShelf(shelf)) {
       return BAD;
     }
-    int refusal = refusal(shelf, shelves[shelf].holds);
-    if (refusal != 0) {
-      return refusal;
+    Shelf row = shelves[shelf];
+    if (row.holds == HOLDS_NOTHING) {
+      return NOTHING_THERE;
     }
-    if (!shelves[shelf].holdsRow()) {
+    if (!row.holdsRow()) {
       return OTHER_KIND;
     }
-    return shelves[shelf].hasPlaces(i, 1) ? 0 : NO_PLACE;
+    return row.hasPlaces(i, 1) ? 0 : NO_PLACE;
   }
 
   /** A part of a fraction in lowest terms; one without anything below the line counts as 0 by 1. */
@@ -1127,7 +1126,7 @@ public final class UmpireLost {
     int bestFirst(int turns) {
       int best = NOTHING, most = -1;
       for (int i = 0; i < MOVES; i++) {
-        int odds = behindMove(FIRST_LIKED[i], turns);
+        int odds = best(moved(grudge, FIRST_LIKED[i]), turns - 1, false);
         if (odds > most) {
           most = odds;
           best = FIRST_LIKED[i];
@@ -1136,8 +1135,8 @@ public final class UmpireLost {
       return best;
     }
 
-    int behindMove(int move, int turns) {
-      return best(moved(grudge, move), turns - 1, false);
+    int bestOdds(int turns) {
+      return best(grudge, turns, true);
     }
 
     private int best(int from, int turns, boolean onesTurn) {

@@ -103,9 +103,10 @@ public final class LanguageTest {
     while (m.find()) {
       check(allowed.contains(m.group(1) + "." + m.group(2)), "calls " + m.group());
     }
-    m = Pattern.compile("(static )?(final )?[\\w\\[\\]<>]+ \\w+ = new ").matcher(code);
-    while (m.find()) {
-      check(!m.group().startsWith("static"), "static state: " + m.group());
+    // All calls of a run live in one room: only constructors and fields make anything.
+    for (String line : code.split("\n")) {
+      boolean isField = line.matches("( {2}| {4})(private )?(final )?\\w+(\\[])? \\w+ = new .*");
+      check(!line.contains(" new ") || isField || line.trim().equals("shelves[i] = new Shelf();"), "makes: " + line.trim());
     }
     check(!Pattern.compile("while \\(true\\)|for \\(;;").matcher(code).find(), "a loop without an end");
     check(code.chars().allMatch(c -> c < 128), "signs beyond 127");

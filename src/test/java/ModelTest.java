@@ -1,3 +1,5 @@
+import java.lang.reflect.Method;
+import java.lang.reflect.Modifier;
 import java.math.BigInteger;
 import java.util.ArrayList;
 import java.util.Arrays;
@@ -12,7 +14,7 @@ public final class ModelTest {
   private static final long NONE = Long.MIN_VALUE;
   private static int wrong = 0;
 
-  public static void main(String[] args) {
+  public static void main(String[] args) throws ReflectiveOperationException {
     Map<String, Integer> answers = new HashMap<>();
     for (int run = 0; run < RUNS && wrong < 10; run++) {
       runOf(new Random(7919L * run + 1), run, answers);
@@ -24,7 +26,7 @@ public final class ModelTest {
     }
   }
 
-  private static void runOf(Random r, int run, Map<String, Integer> answers) {
+  private static void runOf(Random r, int run, Map<String, Integer> answers) throws ReflectiveOperationException {
     UmpireLost x = new UmpireLost();
     Model m = new Model();
     List<String> told = new ArrayList<>();
@@ -35,10 +37,11 @@ public final class ModelTest {
       x.player(skill);
       m.player(skill);
     }
+    Caller ofModel = new Caller(m), ofClass = new Caller(x);
     for (int call = 0; call < CALLS - most; call++) {
       int[] a = feeder.next(m);
       String name = Caller.NAMES[a[0]];
-      long want = Caller.ofModel(m, a), got = Caller.ofClass(x, a);
+      long want = ofModel.call(a), got = ofClass.call(a);
       told.add(name + Arrays.toString(Arrays.copyOfRange(a, 1, a.length)) + " = " + want);
       answers.merge(name, 1, Integer::sum);
       if (want != got) {
@@ -284,92 +287,26 @@ public final class ModelTest {
       "lemonade", "day", "led", "image", "back", "undo", "redo", "body", "act", "trace", "keep", "row", "put", "element",
       "shift", "taken", "count"};
 
-    static long ofClass(UmpireLost x, int[] a) {
-      switch (a[0]) {
-        case 1: return x.player(a[1]);
-        case 2: return x.players(a[1], a[2], a[3]);
-        case 3: return x.mend(a[1], a[2], a[3]);
-        case 4: return x.of(a[1], a[2]);
-        case 5: return x.feed(a[1]);
-        case 6: return x.law();
-        case 7: return x.odds(a[1]);
-        case 8: return x.judges();
-        case 9: return x.bestJudge(a[1]);
-        case 10: return x.held(a[1]);
-        case 11: return x.loses(a[1]);
-        case 12: return x.behind(a[1], a[2], a[3], a[4]);
-        case 13: return x.atOnce(a[1]);
-        case 14: return x.tomorrow(a[1]);
-        case 15: return x.order(a[1], a[2]);
-        case 16: return x.ring(a[1]);
-        case 17: return x.thrownBy(a[1], a[2], a[3]);
-        case 18: return x.three();
-        case 19: return x.streak(a[1], a[2], a[3]);
-        case 20: return x.byTurns(a[1], a[2], a[3]);
-        case 21: return x.drawn(a[1], a[2], a[3], a[4]);
-        case 22: return x.match(a[1]);
-        case 23: return x.lemonade(a[1]);
-        case 24: return x.day();
-        case 25: return x.led(a[1]);
-        case 26: return x.image();
-        case 27: return x.back();
-        case 28: return x.undo();
-        case 29: return x.redo();
-        case 30: return x.body(a[1]);
-        case 31: return x.act(a[1], a[2], a[3]);
-        case 32: return x.trace(a[1]);
-        case 33: return x.keep(a[1], a[2]);
-        case 34: return x.row(a[1], a[2], a[3]);
-        case 35: return x.put(a[1], a[2], a[3]);
-        case 36: return x.element(a[1], a[2]);
-        case 37: return x.shift(a[1], a[2], a[3], a[4], a[5]);
-        case 38: return x.taken(a[1], a[2]);
-        default: return x.count(a[1]);
+    private final Object target;
+    private final Method[] methods = new Method[NAMES.length];
+
+    Caller(Object target) {
+      this.target = target;
+      for (int i = 1; i < NAMES.length; i++) {
+        for (Method method : target.getClass().getDeclaredMethods()) {
+          if (method.getName().equals(NAMES[i]) && !Modifier.isPrivate(method.getModifiers())) {
+            methods[i] = method;
+          }
+        }
       }
     }
 
-    static long ofModel(Model x, int[] a) {
-      switch (a[0]) {
-        case 1: return x.player(a[1]);
-        case 2: return x.players(a[1], a[2], a[3]);
-        case 3: return x.mend(a[1], a[2], a[3]);
-        case 4: return x.of(a[1], a[2]);
-        case 5: return x.feed(a[1]);
-        case 6: return x.law();
-        case 7: return x.odds(a[1]);
-        case 8: return x.judges();
-        case 9: return x.bestJudge(a[1]);
-        case 10: return x.held(a[1]);
-        case 11: return x.loses(a[1]);
-        case 12: return x.behind(a[1], a[2], a[3], a[4]);
-        case 13: return x.atOnce(a[1]);
-        case 14: return x.tomorrow(a[1]);
-        case 15: return x.order(a[1], a[2]);
-        case 16: return x.ring(a[1]);
-        case 17: return x.thrownBy(a[1], a[2], a[3]);
-        case 18: return x.three();
-        case 19: return x.streak(a[1], a[2], a[3]);
-        case 20: return x.byTurns(a[1], a[2], a[3]);
-        case 21: return x.drawn(a[1], a[2], a[3], a[4]);
-        case 22: return x.match(a[1]);
-        case 23: return x.lemonade(a[1]);
-        case 24: return x.day();
-        case 25: return x.led(a[1]);
-        case 26: return x.image();
-        case 27: return x.back();
-        case 28: return x.undo();
-        case 29: return x.redo();
-        case 30: return x.body(a[1]);
-        case 31: return x.act(a[1], a[2], a[3]);
-        case 32: return x.trace(a[1]);
-        case 33: return x.keep(a[1], a[2]);
-        case 34: return x.row(a[1], a[2], a[3]);
-        case 35: return x.put(a[1], a[2], a[3]);
-        case 36: return x.element(a[1], a[2]);
-        case 37: return x.shift(a[1], a[2], a[3], a[4], a[5]);
-        case 38: return x.taken(a[1], a[2]);
-        default: return x.count(a[1]);
+    long call(int[] a) throws ReflectiveOperationException {
+      Object[] arguments = new Object[a.length - 1];
+      for (int i = 0; i < arguments.length; i++) {
+        arguments[i] = a[i + 1];
       }
+      return ((Number) methods[a[0]].invoke(target, arguments)).longValue();
     }
   }
 
