@@ -191,6 +191,14 @@ final class CardSentences extends Sentences {
     due("LOST of 1 behind twenty days", x.behind(0, 20, 1, 0), 0);
     due("GRUDGE of 1 behind twenty days", x.behind(0, 20, 1, 1), 0);
     due("held on twenty days", x.behind(0, 20, 0, 3), 1);
+    for (int seed : new int[] {0, 1, 2, 3, -1, LAST, FIRST, 4711}) {
+      UmpireLost z = withCard(losers(3), 0, 1, 2);
+      z.mend(0, SEED, seed);
+      text(z, "5");
+      due("by 5 of twelve, whatever the seed", z.behind(0, 1, 0, 2), 1);
+      text(z, "6");
+      due("by 6 of twelve, whatever the seed", z.behind(0, 1, 0, 2), 2);
+    }
     due("of(1, 2), as nothing was held in deed", x.of(1, LOST), 1);
     due("day", x.of(0, DAY), 0);
     UmpireLost y = withCard(of(9, 0, 0), 0, 1, 2, 0, 2, 1);

@@ -25,6 +25,7 @@ final class DeedSentences extends Sentences {
     backRefusals();
     undoEach();
     undoForty();
+    undoFortyOfSeveral();
     undoDeeds();
     undoRefusals();
     redoEach();
@@ -80,11 +81,24 @@ final class DeedSentences extends Sentences {
     for (int one = 0; one < 3; one++) {
       due("TODAY of " + one + ", who had lost", y.of(one, TODAY), 3);
     }
+    // The ones are 1, 3 and 1 today, and nobody else is anything.
+    ofAllThrees("who played", new Stand(), (none, abu) -> todayBehind(abu), (a, b, u) -> (1L << 2 * a) + (3L << 2 * b) + (1L << 2 * u), BAD);
     UmpireLost ten = CardSentences.losers(10);
     due("of 9, 8, 7", ten.match(987) >= 0 ? 1 : 0, 1);
     due("of 0, 1, 2", ten.match(12) >= 0 ? 1 : 0, 1);
     due("of 3, 4, 5", ten.match(345) >= 0 ? 1 : 0, 1);
     due("of 6, who alone is left", ten.match(601), STATE);
+  }
+
+  private static long todayBehind(int abu) {
+    UmpireLost x = CardSentences.losers(10);
+    text(x, "12");
+    int answer = x.match(abu);
+    long today = 0;
+    for (int one = 0; one < 10; one++) {
+      today += (long) x.of(one, TODAY) << 2 * one;
+    }
+    return answer == 1 ? today : answer;
   }
 
   private static void matchState() {
@@ -449,6 +463,29 @@ final class DeedSentences extends Sentences {
       due("undo()", y.undo(), left);
     }
     due("to the first", y.of(0, GRUDGE), 0);
+  }
+
+  private static void undoFortyOfSeveral() {
+    holds(29, "the latest first, and DONE AGAIN (as long as no other came behind); 40 at most are kept;");
+    UmpireLost z = many(10);
+    for (int i = 0; i < 45; i++) {
+      z.mend(i % 10, i % 3, 1 + i);
+    }
+    due("changes of several numbers", z.count(3), 33);
+    z.mend(0, DAY, 50);
+    for (int i = 1; i <= 9; i++) {
+      z.mend(i, TODAY, 1 + i % 3);
+    }
+    due("forty-three changes of several numbers", z.count(3), 40);
+    for (int left = 39; left >= 0; left--) {
+      due("undo()", z.undo(), left);
+    }
+    // The first three were SKILL of 0, GRUDGE of 1 and LOST of 2: 1, 2 and 3.
+    int[] kept = {1, 0, 0, 5, 2, 0, 5, 0, 3, 5, 0, 0};
+    for (int i = 0; i < kept.length; i++) {
+      due("of(" + i / 3 + ", " + i % 3 + ")", z.of(i / 3, i % 3), kept[i]);
+    }
+    due("DAY", z.of(0, DAY), 0);
   }
 
   private static void undoDeeds() {

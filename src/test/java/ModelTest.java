@@ -56,15 +56,13 @@ public final class ModelTest {
   private static void texts(Random r) {
     UmpireLost x = new UmpireLost();
     Model m = new Model();
-    for (int i = 0; i < 4; i++) {
-      x.player(3 + i);
-      m.player(3 + i);
-      x.mend(i, 2, 3 * i + 1);
-      m.mend(i, 2, 3 * i + 1);
-      x.mend(i, 1, 31 * i);
-      m.mend(i, 1, 31 * i);
-    }
     for (int i = 0; i < 60000 && wrong < 10; i++) {
+      // Anew now and then, as an object is used for 512 calls at most.
+      if (i % 5 == 0) {
+        x = new UmpireLost();
+        m = new Model();
+        fourPlayers(x, m);
+      }
       String text = Feeder.text(r);
       for (int j = 0; j < text.length(); j++) {
         x.feed(text.charAt(j));
@@ -77,6 +75,17 @@ public final class ModelTest {
         wrong++;
         System.out.println("text " + text + ": " + got + ", due is " + want + "; odds " + gotOdds + ", due " + wantOdds);
       }
+    }
+  }
+
+  private static void fourPlayers(UmpireLost x, Model m) {
+    for (int i = 0; i < 4; i++) {
+      x.player(3 + i);
+      m.player(3 + i);
+      x.mend(i, 2, 3 * i + 1);
+      m.mend(i, 2, 3 * i + 1);
+      x.mend(i, 1, 31 * i);
+      m.mend(i, 1, 31 * i);
     }
   }
 

@@ -341,14 +341,15 @@ final class PlayerSentences extends Sentences {
     due("odds(12) without a text", y.odds(12), 6);
     due("a law is no change", y.undo(), STATE);
     holds(7, "THE LAW is a TEXT by THE TAPE (at most 120 bytes)");
-    due("a text of 119 bytes", text(x, "0+".repeat(59) + "8"), 1);
-    due("odds(12)", x.odds(12), 8);
-    due("a text of 120 bytes", text(x, "0+".repeat(59) + "12"), 1);
-    due("odds(12)", x.odds(12), 12);
+    laws("0+".repeat(59) + "8", 8);
+    laws("0+".repeat(59) + "12", 12);
+    laws("!0" + "+0".repeat(57) + "+7-1", 7);
+    fault("0+".repeat(60), 120);
+    fault("0+".repeat(59) + "1x", 119);
+    fault("x" + "0".repeat(119), 0);
+    due("a law", text(x, "7"), 1);
     due("120 bytes that end too early", text(x, "0+".repeat(60)), -220);
-    due("a fault in the last of 120 bytes", text(x, "0+".repeat(59) + "1x"), -219);
-    due("a fault in the first of 120 bytes", text(x, "x" + "0".repeat(119)), -100);
-    due("odds(12)", x.odds(12), 12);
+    due("odds(12) behind it", x.odds(12), 7);
   }
 
   private static void laws(UmpireLost x, String text, int odds) {
@@ -356,137 +357,154 @@ final class PlayerSentences extends Sentences {
     due("odds(12) by " + text, x.odds(12), odds);
   }
 
-  private static void fault(UmpireLost x, String text, int place) {
-    due("law of " + text, text(x, text), -100 - place);
+  private static void laws(String text, int odds) {
+    laws(many(3), text, odds);
+  }
+
+  private static void fault(String text, int place) {
+    due("law of " + text, text(many(3), text), -100 - place);
   }
 
   private static void lawLines() {
-    UmpireLost x = many(3);
     holds(7, "LINES, one or more, parted by ; .");
-    laws(x, "7", 7);
-    laws(x, "7;8", 7);
-    laws(x, "0;".repeat(59) + "0", 0);
-    laws(x, "0?1;".repeat(29) + "9", 9);
-    fault(x, "", 0);
-    fault(x, ";", 0);
-    fault(x, "7;", 2);
-    fault(x, ";7", 0);
-    fault(x, "7;;8", 2);
-    fault(x, "0;".repeat(60), 120);
+    laws("7", 7);
+    laws("7;8", 7);
+    laws("0;".repeat(59) + "0", 0);
+    laws("0?1;".repeat(29) + "9", 9);
+    fault("", 0);
+    fault(";", 0);
+    fault("7;", 2);
+    fault(";7", 0);
+    fault("7;;8", 2);
+    fault("0;".repeat(60), 120);
     holds(7, "LINE: E, or E ? E (what counts if the first is not 0).");
-    laws(x, "1?7", 7);
-    laws(x, "-1?7", 7);
-    laws(x, "9999?7", 7);
-    laws(x, "0?7", 0);
-    laws(x, "1?0", 0);
-    laws(x, "1?0;7", 0);
-    fault(x, "?", 0);
-    fault(x, "1?", 2);
-    fault(x, "1?;7", 2);
-    fault(x, "1?2?3", 3);
-    fault(x, "(1?2)", 2);
-    fault(x, "(1;2)", 2);
+    laws("1?7", 7);
+    laws("-1?7", 7);
+    laws("9999?7", 7);
+    laws("0?7", 0);
+    laws("1?0", 0);
+    laws("1?0;7", 0);
+    fault("?", 0);
+    fault("1?", 2);
+    fault("1?;7", 2);
+    fault("1?2?3", 3);
+    fault("(1?2)", 2);
+    fault("(1;2)", 2);
+    laws("0|3?2|0;5", 1);
+    laws("1?((((((7))))))", 7);
+    laws("((((((1))))))?7", 7);
+    fault("1?(((((((7", 8);
+    fault("(((((((7", 6);
+    fault("1?12345", 6);
+    fault("1?7)", 3);
     holds(7, "The first LINE without a first E, or whose first E is not 0, counts; none: 0.");
-    laws(x, "0?1;7;9", 7);
-    laws(x, "0?1;0?2;1?3;4", 3);
-    laws(x, "0?1;-1?2;3", 2);
-    laws(x, "0;7", 0);
-    laws(x, "0?1;0?2;0?3", 0);
+    laws("0?1;7;9", 7);
+    laws("0?1;0?2;1?3;4", 3);
+    laws("0?1;-1?2;3", 2);
+    laws("0;7", 0);
+    laws("0?1;0?2;0?3", 0);
   }
 
   private static void lawJoins() {
-    UmpireLost x = many(3);
     holds(7, "E = A { | A }. A = B { & B }.");
-    laws(x, "0|0", 0);
-    laws(x, "0|7", 1);
-    laws(x, "0|0|0|0|3", 1);
-    laws(x, "2&4", 1);
-    laws(x, "2&0", 0);
-    laws(x, "1&1&1&1&0", 0);
-    laws(x, "1|0&0", 1);
-    laws(x, "0&0|1", 1);
-    laws(x, "1&0<1", 1);
+    laws("0|0", 0);
+    laws("0|7", 1);
+    laws("0|0|0|0|3", 1);
+    laws("2&4", 1);
+    laws("2&0", 0);
+    laws("0&2", 0);
+    laws("(0|0)+3", 3);
+    laws("(0|2)+3", 4);
+    laws("(0&2)+3", 3);
+    laws("(2&0)+3", 3);
+    laws("(2&2)+3", 4);
+    laws("1&1&1&1&0", 0);
+    laws("1|0&0", 1);
+    laws("0&0|1", 1);
+    laws("1&0<1", 1);
     for (String text : new String[] {"|1", "&1"}) {
-      fault(x, text, 0);
+      fault(text, 0);
     }
     for (String text : new String[] {"1|", "1&", "1||1", "1&&1", "1|&1"}) {
-      fault(x, text, 2);
+      fault(text, 2);
     }
     holds(7, "B = S, or S < S, S = S, S > S.");
-    laws(x, "3<4", 1);
-    laws(x, "4<4", 0);
-    laws(x, "4=4", 1);
-    laws(x, "4=5", 0);
-    laws(x, "4>4", 0);
-    laws(x, "4>3", 1);
-    laws(x, "(1<2)<3", 1);
-    laws(x, "1<2&2<3", 1);
-    laws(x, "1+1<3", 1);
+    laws("3<4", 1);
+    laws("4<4", 0);
+    laws("4=4", 1);
+    laws("4=5", 0);
+    laws("4>4", 0);
+    laws("4>3", 1);
+    laws("(4<4)+(4>4)+(4=5)+3", 3);
+    laws("(4<5)+(5>4)+(5=5)+3", 6);
+    laws("(1<2)<3", 1);
+    laws("1<2&2<3", 1);
+    laws("1+1<3", 1);
     for (String text : new String[] {"1<2<3", "1=1=1", "3>2>1", "1<2=1", "1=2>1"}) {
-      fault(x, text, 3);
+      fault(text, 3);
     }
     for (String text : new String[] {"1<", "1=", "1>", "1==1", "1<=1", "1>=1"}) {
-      fault(x, text, 2);
+      fault(text, 2);
     }
     holds(7, "S = P { + P, - P }. P = O { * O, / O, % O }.");
-    laws(x, "1+2+3+4", 10);
-    laws(x, "9-4-3", 2);
-    laws(x, "9-(4-3)", 8);
-    laws(x, "2+3*2", 8);
-    laws(x, "(2+3)*2", 10);
-    laws(x, "8/2/2", 2);
-    laws(x, "8/(2/2)", 8);
-    laws(x, "11%6*2", 10);
+    laws("1+2+3+4", 10);
+    laws("9-4-3", 2);
+    laws("9-(4-3)", 8);
+    laws("2+3*2", 8);
+    laws("(2+3)*2", 10);
+    laws("8/2/2", 2);
+    laws("8/(2/2)", 8);
+    laws("11%6*2", 10);
     for (String text : new String[] {"+1", "*1", "/1", "%1"}) {
-      fault(x, text, 0);
+      fault(text, 0);
     }
     for (String text : new String[] {"1+", "1-", "1*", "1/", "1%", "1++1", "1-+1", "1**1", "1*/1", "1+*1"}) {
-      fault(x, text, 2);
+      fault(text, 2);
     }
   }
 
   private static void lawOperands() {
-    UmpireLost x = many(3);
     holds(7, "O = a number (1 to 4 digits), a NAME, ! O, - O, ( E ). No blanks.");
-    laws(x, "0", 0);
-    laws(x, "9", 9);
-    laws(x, "0012", 12);
-    laws(x, "9999%9998", 1);
-    laws(x, "a", 5);
-    laws(x, "!0", 1);
-    laws(x, "!7", 0);
-    laws(x, "!!7", 1);
-    laws(x, "--7", 7);
-    laws(x, "1--7", 8);
-    laws(x, "1+-7+8", 2);
-    laws(x, "(7)", 7);
-    laws(x, "((7))", 7);
-    laws(x, "!a+3", 3);
-    laws(x, "-2*-3", 6);
-    fault(x, "12345", 4);
-    fault(x, "00000", 4);
-    fault(x, "1+12345", 6);
-    fault(x, "ab", 1);
-    fault(x, "1a", 1);
-    fault(x, "a1", 1);
-    fault(x, "1!", 1);
-    fault(x, "1(", 1);
-    fault(x, "(1)(1)", 3);
-    fault(x, "()", 1);
-    fault(x, ")", 0);
-    fault(x, "1)", 1);
-    fault(x, "(1))", 3);
+    laws("0", 0);
+    laws("9", 9);
+    laws("0012", 12);
+    laws("9999%9998", 1);
+    laws("a", 5);
+    laws("!0", 1);
+    laws("!7", 0);
+    laws("!!7", 1);
+    laws("--7", 7);
+    laws("1--7", 8);
+    laws("1+-7+8", 2);
+    laws("(7)", 7);
+    laws("((7))", 7);
+    laws("!a+3", 3);
+    laws("-2*-3", 6);
+    fault("12345", 4);
+    fault("00000", 4);
+    fault("1+12345", 6);
+    fault("ab", 1);
+    fault("1a", 1);
+    fault("a1", 1);
+    fault("1!", 1);
+    fault("1(", 1);
+    fault("(1)(1)", 3);
+    fault("()", 1);
+    fault(")", 0);
+    fault("1)", 1);
+    fault("(1))", 3);
     for (String text : new String[] {"(", "!", "-"}) {
-      fault(x, text, 1);
+      fault(text, 1);
     }
-    fault(x, "(1", 2);
-    fault(x, " 1", 0);
-    fault(x, "1 ", 1);
-    fault(x, "1 +1", 1);
-    fault(x, "1+ 1", 2);
+    fault("(1", 2);
+    fault(" 1", 0);
+    fault("1 ", 1);
+    fault("1 +1", 1);
+    fault("1+ 1", 2);
     for (int letter = 0; letter <= 255; letter++) {
       boolean isOperand = letter >= '0' && letter <= '9' || letter < 128 && "abglmd".indexOf((char) letter) >= 0;
       boolean goesOn = letter == '(' || letter == '!' || letter == '-';
+      UmpireLost x = many(3);
       x.feed(letter);
       due("law of byte " + letter + " alone", x.law(), isOperand ? 1 : goesOn ? -101 : -100);
     }
@@ -525,59 +543,57 @@ final class PlayerSentences extends Sentences {
   }
 
   private static void lawOpen() {
-    UmpireLost x = many(3);
     holds(7, "At most 6 of ( ! - ahead of an O are open at once.");
-    laws(x, "((((((7))))))", 7);
-    laws(x, "!!!!!!7", 1);
-    laws(x, "------7", 7);
-    laws(x, "!-(!-(7))", 1);
-    laws(x, "((((((1))))))+((((((2))))))", 3);
-    laws(x, "!!!!!!1+!!!!!!1", 2);
-    laws(x, "(((((!1+!1)))))", 0);
-    laws(x, "1-------1", 0);
-    laws(x, "9------1", 10);
-    laws(x, "8-1-1-1-1-1-1-1", 1);
-    laws(x, "((((((1-1+1))))))", 1);
-    laws(x, "(1)+(1)+(1)+(1)+(1)+(1)+(1)", 7);
-    laws(x, "------1?!!!!!!1;((((((1))))))", 1);
+    laws("((((((7))))))", 7);
+    laws("!!!!!!7", 1);
+    laws("------7", 7);
+    laws("!-(!-(7))", 1);
+    laws("((((((1))))))+((((((2))))))", 3);
+    laws("!!!!!!1+!!!!!!1", 2);
+    laws("(((((!1+!1)))))", 0);
+    laws("1-------1", 0);
+    laws("9------1", 10);
+    laws("8-1-1-1-1-1-1-1", 1);
+    laws("((((((1-1+1))))))", 1);
+    laws("(1)+(1)+(1)+(1)+(1)+(1)+(1)", 7);
+    laws("------1?!!!!!!1;((((((1))))))", 1);
     for (String text : new String[] {"(((((((", "!!!!!!!", "-------", "!-(!-(!", "!-(!-(-", "!-(!-((", "((((((!1", "(((((--1", "!!!!!!(1)"}) {
-      fault(x, text, 6);
+      fault(text, 6);
     }
-    fault(x, "1--------1", 8);
-    fault(x, "!-(!-(7", 7);
-    fault(x, "((((((1))))))+(((((((", 20);
-    fault(x, "((((((1+!1))))))", 8);
+    fault("1--------1", 8);
+    fault("!-(!-(7", 7);
+    fault("((((((1))))))+(((((((", 20);
+    fault("((((((1+!1))))))", 8);
   }
 
   private static void lawNumbers() {
-    UmpireLost x = many(3);
     holds(7, "Ints that wrap; / and % toward 0, by 0 they give 0; | & < = > ! give 1, 0; all is worked out.");
     String least = "(-2147*1000*1000-483*1000-648)", most = "(2147*1000*1000+483*1000+647)";
-    laws(x, most + ">0", 1);
-    laws(x, most + "+1<0", 1);
-    laws(x, most + "+1=" + least, 1);
-    laws(x, least + "-1=" + most, 1);
-    laws(x, "-" + least + "=" + least, 1);
-    laws(x, least + "/-1=" + least, 1);
-    laws(x, least + "%-1+5", 5);
-    laws(x, most + "*2+7", 5);
-    laws(x, "-7/2+9", 6);
-    laws(x, "7/-2+9", 6);
-    laws(x, "-7/-2", 3);
-    laws(x, "-7%4+9", 6);
-    laws(x, "7%-4", 3);
-    laws(x, "-7%-4+9", 6);
-    laws(x, "7/0+2", 2);
-    laws(x, "7%0+3", 3);
-    laws(x, "0/0+4", 4);
-    laws(x, "0%0+5", 5);
-    laws(x, least + "/0+6", 6);
-    laws(x, "-5|0", 1);
-    laws(x, "-5&-6", 1);
-    laws(x, "!-5+3", 3);
-    laws(x, "1|1/0", 1);
-    laws(x, "0&1/0", 0);
-    laws(x, "0&1%0|4>3", 1);
+    laws(most + ">0", 1);
+    laws(most + "+1<0", 1);
+    laws(most + "+1=" + least, 1);
+    laws(least + "-1=" + most, 1);
+    laws("-" + least + "=" + least, 1);
+    laws(least + "/-1=" + least, 1);
+    laws(least + "%-1+5", 5);
+    laws(most + "*2+7", 5);
+    laws("-7/2+9", 6);
+    laws("7/-2+9", 6);
+    laws("-7/-2", 3);
+    laws("-7%4+9", 6);
+    laws("7%-4", 3);
+    laws("-7%-4+9", 6);
+    laws("7/0+2", 2);
+    laws("7%0+3", 3);
+    laws("0/0+4", 4);
+    laws("0%0+5", 5);
+    laws(least + "/0+6", 6);
+    laws("-5|0", 1);
+    laws("-5&-6", 1);
+    laws("!-5+3", 3);
+    laws("1|1/0", 1);
+    laws("0&1/0", 0);
+    laws("0&1%0|4>3", 1);
   }
 
   private static void lawFaults() {
@@ -586,7 +602,7 @@ final class PlayerSentences extends Sentences {
     String[] texts = {"", "x", "7x", "7+x", "7+", "7+8)", "(7+8", "(7+8;", "7?", "7?8x", "7?8;x", "7x+x", "7+8\u00ff", "a<b<"};
     int[] places = {0, 0, 1, 2, 2, 3, 4, 4, 2, 3, 4, 1, 3, 3};
     for (int i = 0; i < texts.length; i++) {
-      fault(x, texts[i], places[i]);
+      fault(texts[i], places[i]);
     }
     x.feed('7');
     x.feed(0);
@@ -594,18 +610,17 @@ final class PlayerSentences extends Sentences {
   }
 
   private static void lawGives() {
-    UmpireLost x = many(3);
     holds(7, "It gives in how many of twelve the one wins (held within 0 .. 12).");
-    laws(x, "0", 0);
-    laws(x, "1", 1);
-    laws(x, "11", 11);
-    laws(x, "12", 12);
-    laws(x, "13", 12);
-    laws(x, "9999", 12);
-    laws(x, "-1", 0);
-    laws(x, "-9999", 0);
-    laws(x, "9999*9999*21", 12);
-    laws(x, "9999*9999*22", 0);
+    laws("0", 0);
+    laws("1", 1);
+    laws("11", 11);
+    laws("12", 12);
+    laws("13", 12);
+    laws("9999", 12);
+    laws("-1", 0);
+    laws("-9999", 0);
+    laws("9999*9999*21", 12);
+    laws("9999*9999*22", 0);
   }
 
   private static void oddsWithoutText() {
@@ -656,6 +671,9 @@ final class PlayerSentences extends Sentences {
     holds(8, "ODDS. BAD.");
     refused(new Stand().does(y -> y.player(5), y -> y.player(5)), "odds(12) of two players", y -> y.odds(12), BAD);
     due("odds(12) of three", many(3).odds(12), 6);
+    ofAllThrees("the one's skill", numbered("a"), UmpireLost::odds, (a, b, u) -> a, BAD);
+    ofAllThrees("the other one's skill", numbered("b"), UmpireLost::odds, (a, b, u) -> b, BAD);
+    ofAllThrees("the umpire's grudge", numbered("g"), UmpireLost::odds, (a, b, u) -> u, BAD);
     onlyAnswers(8, "odds(12)", y -> y.odds(12));
   }
 

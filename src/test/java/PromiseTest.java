@@ -227,22 +227,22 @@ public final class PromiseTest {
     due("odds", x.odds(12), 11);
     due("no byte of it without a part in it", text(x, "!0" + times("+0", 57) + "+7-1"), 1);
     due("odds", x.odds(12), 7);
-    due("as many lines as can be", text(x, times("0?0;", 29) + "0?9;"), -220);
-    due("as many lines as can be", text(x, times("0?0;", 29) + "0?0"), 1);
-    due("none counts", x.odds(12), 0);
+    UmpireLost y = of(5, 5, 5);
+    due("as many lines as can be", text(y, times("0?0;", 29) + "0?9;"), -220);
+    due("as many lines as can be", text(y, times("0?0;", 29) + "0?0"), 1);
+    due("none counts", y.odds(12), 0);
     due("a law is no change", x.undo(), STATE);
   }
 
   private static void lawFaults() {
     promise = 7;
-    UmpireLost x = of(5, 5, 5);
     String[] good = {
       "0", "9999", "0007", "a", "b", "g", "l", "m", "d", "!a", "-a", "(a)", "!!!!!!a", "------1", "((((((a))))))",
       "!-(!-(a))", "a|b&g<l+m*d", "a<b", "a=b", "a>b", "(a<b)<g", "a?b", "a;b", "a?b;g?l;m", "1-1", "1--1", "a?b;a?b",
       "((((((a))))))+((((((b))))))", "!!!!!!a|!!!!!!b", "(a|b)*-3", "a/b%g",
     };
     for (String text : good) {
-      due(text, text(x, text), 1);
+      due(text, text(new UmpireLost(), text), 1);
     }
     String[] faulty = {
       "", "+", "a+", "ab", "12345", "a<b<g", "a<b=g", "a?b?g", "a;", ";a", "a;;b", "?a", "(a", "(a?b)", "(a;b)", "a)", "()",
@@ -255,8 +255,9 @@ public final class PromiseTest {
       2, 2, 2, 3, 1, 6,
     };
     for (int i = 0; i < faulty.length; i++) {
-      due(faulty[i], text(x, faulty[i]), -100 - fault[i]);
+      due(faulty[i], text(new UmpireLost(), faulty[i]), -100 - fault[i]);
     }
+    UmpireLost x = new UmpireLost();
     x.feed('a');
     x.feed(200);
     due("a byte of 200", x.law(), -101);

@@ -81,6 +81,14 @@ final class ResultSentences extends Sentences {
     orderIs("a ring of three", withRow(many(3), 0, 1, 1, 2, 2, 0), 1, 0, 1, 2);
     orderIs("a ring of three with a stronger last", withRow(many(3), 0, 1, 1, 2, 2, 0, 2, 0), 1, 1, 2, 0);
     orderIs("a chain of ten", withRow(many(10), 9, 8, 8, 7, 7, 6, 6, 5, 5, 4, 4, 3, 3, 2, 2, 1, 1, 0), 0, 9, 8, 7, 6, 5, 4, 3, 2, 1, 0);
+    orderIs("two rings of two", withRow(many(4), 0, 1, 1, 0, 2, 3, 3, 2), 2, 0, 1, 2, 3);
+    orderIs("two rings of two, each with a stronger last", withRow(many(5), 0, 2, 2, 0, 2, 0, 1, 4, 4, 1, 4, 1), 2, 2, 0, 3, 4, 1);
+    orderIs("a ring of two among others", withRow(many(6), 3, 5, 5, 3), 1, 0, 1, 2, 3, 4, 5);
+    orderIs("two rings of three", withRow(many(6), 0, 1, 1, 2, 2, 0, 3, 4, 4, 5, 5, 3), 2, 0, 1, 2, 3, 4, 5);
+    UmpireLost x = withRow(many(3), 2, 1, 1, 0);
+    orderIs("one row", x, 0, 2, 1, 0);
+    orderIs("another row behind it", withRow(x, 0, 1), 0, 0, 1, 2);
+    orderIs("a row without results behind it", withRow(x), 0, 0, 1, 2);
     orderIs("who won against the last", withRow(many(4), 3, 0), 0, 1, 2, 3, 0);
     orderIs("one alone", withRow(many(1), 0, 0), 0, 0);
     orderIs("nobody", withRow(new UmpireLost(), 0, 1), 0);
@@ -123,6 +131,10 @@ final class ResultSentences extends Sentences {
     due("all ten", withRow(many(10), ten).ring(0), 10);
     due("nine of the ten", withRow(many(10), Arrays.copyOf(ten, 18)).ring(0), NOT);
     due("the ring of ten, of nine players", withRow(many(9), ten).ring(0), NOT);
+    UmpireLost x = withRow(many(4), 0, 1, 1, 0);
+    due("one row", x.ring(0), 2);
+    due("another row behind it", withRow(x, 0, 1, 1, 2, 2, 0).ring(0), 3);
+    due("a row without a ring behind it", withRow(x, 0, 1, 1, 2).ring(0), NOT);
     due("one who lies on no ring", withRow(many(4), 0, 1, 1, 2, 2, 3, 3, 1).ring(0), 3);
   }
 
@@ -225,7 +237,15 @@ final class ResultSentences extends Sentences {
     due("by an umpire who did not lose", x.thrownBy(0, 12, 0), 11);
     x.mend(0, TODAY, 1);
     due("of one who played today", x.thrownBy(0, 12, 1), 17);
-    onlyAnswers(18, "thrownBy(0, 12, 0)", y -> y.thrownBy(0, 12, 0));
+    OfThree below = (each, abu) -> each.thrownBy(0, abu, 1);
+    ofAllThrees("thrown by the one's skill", withWin("a"), below, (a, b, u) -> 1 + a, NONE);
+    ofAllThrees("thrown by the other one's skill", withWin("b"), below, (a, b, u) -> 1 + b, NONE);
+    ofAllThrees("thrown by the umpire's grudge", withWin("g"), below, (a, b, u) -> 1 + u, NONE);
+    onlyAnswers(18, "thrownBy(0, 12, 0)", each -> each.thrownBy(0, 12, 0));
+  }
+
+  private static Stand withWin(String law) {
+    return numbered(law).does(x -> x.row(0, BYTES, 1), x -> x.put(0, 0, 1));
   }
 
   private static void three() {
@@ -295,12 +315,23 @@ final class ResultSentences extends Sentences {
       refused(house, "streak(" + abu + ", 0, 1)", x -> x.streak(abu, 0, 1), NONE);
     }
     refused(new Stand(), "streak(12, 0, 0) without players", x -> x.streak(12, 0, 0), NONE);
-    onlyAnswers(20, "streak(12, 6, 1)", x -> x.streak(12, 6, 1));
+    long[] below = {1, 12, 6, 4, 3, 12, 2, 12, 3, 4};
+    OfThree part = (x, abu) -> x.streak(abu, 1, 1);
+    ofAllThrees("streak by the one's skill", numbered("a"), part, (a, b, u) -> below[a], NONE);
+    ofAllThrees("streak by the other one's skill", numbered("b"), part, (a, b, u) -> below[b], NONE);
+    ofAllThrees("streak by the umpire's grudge", numbered("g"), part, (a, b, u) -> below[u], NONE);
+    onlyAnswers(20, "streak(12, 6, 1)", each -> each.streak(12, 6, 1));
   }
 
   private static void turnsAre(String what, UmpireLost x, int n, int odds, int first) {
     due(what + ", " + n + " times", x.byTurns(12, n, 0), odds);
     due(what + ", " + n + " times, first", x.byTurns(12, n, 1), first);
+  }
+
+  private static void turnsAre(String what, UmpireLost x, int[] odds, int[] firsts) {
+    for (int n = 1; n <= 5; n++) {
+      turnsAre(what, x, n, odds[n - 1], firsts[n - 1]);
+    }
   }
 
   private static void byTurns() {
@@ -316,6 +347,10 @@ final class ResultSentences extends Sentences {
     holds(21, ONLY_ANSWERS);
     due("of(2, 1)", x.of(2, GRUDGE), 99);
     due("count(3)", x.count(3), 2);
+    OfThree twice = (each, abu) -> each.byTurns(abu, 2, 0), once = (each, abu) -> each.byTurns(abu, 1, 0);
+    ofAllThrees("by turns by the one's skill", numbered("a"), twice, (a, b, u) -> a, BAD);
+    ofAllThrees("by turns by the other one's skill", numbered("b"), twice, (a, b, u) -> b, BAD);
+    ofAllThrees("by turns by the umpire's grudge", numbered("g-20"), once, (a, b, u) -> u, BAD);
     onlyAnswers(21, "byTurns(12, 5, 0)", y -> y.byTurns(12, 5, 0));
     onlyAnswers(21, "byTurns(12, 5, 1)", y -> y.byTurns(12, 5, 1));
   }
@@ -360,6 +395,13 @@ final class ResultSentences extends Sentences {
     text(x, "12-g/10");
     turnsAre("the less the better", x, 1, 9, 0);
     turnsAre("the less the better", x, 2, 7, 0);
+    text(x, "g=70?5;g=90?12;6");
+    int[] odds = {6, 6, 6, 6, 6}, firsts = {2, 0, 2, 0, 2};
+    turnsAre("what the other one can do counts", x, odds, firsts);
+    text(x, "g=10?9;g=30?8;g=50?5;g=70?9;0");
+    turnsAre("what both can do counts", x, new int[] {9, 5, 9, 5, 9}, new int[] {1, 2, 2, 2, 2});
+    text(x, "g*7%13");
+    turnsAre("up and down", x, new int[] {12, 6, 12, 6, 12}, new int[] {2, 1, 2, 1, 2});
     text(x, "(g=10)*7|(g=90)");
     turnsAre("three times the same way", x, 3, 0, 2);
   }

@@ -101,6 +101,37 @@ abstract class Sentences {
     return x.law();
   }
 
+  /** Ten whose skills and grudges are their numbers, so that a law of one name tells who is asked of. */
+  static Stand numbered(String law) {
+    Stand stand = new Stand();
+    for (int i = 0; i < 10; i++) {
+      int one = i;
+      stand.does(x -> x.player(one), x -> x.mend(one, GRUDGE, one));
+    }
+    return Stand.text(stand, law).does(x -> x.law());
+  }
+
+  /** Each abu of three digits: what is due if they are unlike is by its digits, else it is what refuses. */
+  static void ofAllThrees(String what, Stand stand, OfThree call, OfDigits due, long refusal) {
+    UmpireLost x = null;
+    for (int abu = 0; abu < 1000; abu++) {
+      int one = abu / 100, other = abu % 100 / 10, umpire = abu % 10;
+      boolean unlike = one != other && other != umpire && umpire != one;
+      if (other + umpire == 0) {
+        x = stand.again();
+      }
+      due(what + " of " + abu, call.of(x, abu), unlike ? due.of(one, other, umpire) : refusal);
+    }
+  }
+
+  interface OfThree {
+    long of(UmpireLost x, int abu);
+  }
+
+  interface OfDigits {
+    long of(int one, int other, int umpire);
+  }
+
   static int[] outside(int least, int most) {
     return new int[] {least - 1, most + 1, FIRST, LAST};
   }
