@@ -19,9 +19,9 @@ public final class UmpireLost {
   private final Yard kept = new Yard();
   private boolean hasImage = false;
   private final Law text = new Law();
-  private final Season trial = new Season(text);
+  private final Season trial = new Season();
   private final Results table = new Results();
-  private final Turns turns = new Turns(trial.yard, text);
+  private final Turns turns = new Turns();
   private final Changes changes = new Changes();
   private final Stools stools = new Stools();
   private final Shelf[] shelves = new Shelf[MOST_SHELVES];
@@ -122,7 +122,7 @@ public final class UmpireLost {
       return refusal;
     }
     trial.begin(yard);
-    trial.holdCard(shelves[shelf], false);
+    trial.holdCard(shelves[shelf], text, false);
     return trial.matches;
   }
 
@@ -132,7 +132,7 @@ public final class UmpireLost {
       return refusal;
     }
     trial.begin(yard);
-    trial.holdCard(shelves[shelf], false);
+    trial.holdCard(shelves[shelf], text, false);
     return trial.loserBits;
   }
 
@@ -147,7 +147,7 @@ public final class UmpireLost {
       return refusal;
     }
     trial.begin(yard);
-    trial.goThrough(n, shelves[shelf], false);
+    trial.goThrough(n, shelves[shelf], text, false);
     switch (what) {
       case 0: return trial.yard.lost[one];
       case 1: return trial.yard.grudge[one];
@@ -273,9 +273,8 @@ public final class UmpireLost {
     if (!isThree(abu) || n < 1 || n > 5 || what != 0 && what != 1) {
       return BAD;
     }
-    trial.begin(yard);
-    turns.begin(abu);
-    return what == 0 ? turns.bestOdds(n) : turns.bestFirst(n);
+    turns.begin(abu, yard);
+    return what == 0 ? turns.bestOdds(n, text) : turns.bestFirst(n, text);
   }
 
   public int drawn(int seed, int shelf, int nm, int one) {
@@ -291,7 +290,7 @@ public final class UmpireLost {
     trial.yard.seed = seed;
     for (int i = 0; i < seasons; i++) {
       trial.beginAnew(yard);
-      trial.goThrough(days, shelves[shelf], true);
+      trial.goThrough(days, shelves[shelf], text, true);
     }
     return one == -1 ? trial.matches : trial.wins[one];
   }
@@ -932,15 +931,10 @@ public final class UmpireLost {
   private static final class Season {
     private static final int MOST_THREES = 8;
 
-    private final Law law;
     final Yard yard = new Yard();
     final int[] wins = new int[MOST_PLAYERS];
     int matches = 0;
     int loserBits = 0;
-
-    Season(Law byLaw) {
-      law = byLaw;
-    }
 
     void begin(Yard now) {
       yard.copyAll(now);
@@ -958,14 +952,14 @@ public final class UmpireLost {
       yard.seed = seed;
     }
 
-    void goThrough(int days, Shelf card, boolean byDraws) {
+    void goThrough(int days, Shelf card, Law law, boolean byDraws) {
       for (int i = 0; i < days; i++) {
-        holdCard(card, byDraws);
+        holdCard(card, law, byDraws);
         yard.endDay();
       }
     }
 
-    void holdCard(Shelf card, boolean byDraws) {
+    void holdCard(Shelf card, Law law, boolean byDraws) {
       for (int i = 0; i < 3 * MOST_THREES && i + 3 <= card.length; i += 3) {
         int one = (int) card.valueAt(i), other = (int) card.valueAt(i + 1), umpire = (int) card.valueAt(i + 2);
         if (!yard.canHold(one, other, umpire)) {
@@ -1103,19 +1097,14 @@ public final class UmpireLost {
     private static final int CHALK = 1, NOTHING = 2, MOVES = 3, MOST_TURNS = 5, UNKNOWN = -1;
     private static final int[] FIRST_LIKED = {NOTHING, 0, CHALK};
 
-    private final Yard yard;
-    private final Law law;
+    private final Yard yard = new Yard();
     private int abu = 0;
     private int grudge = 0;
     private final int[] oddsBy = new int[MOST_GRUDGE + 1];
 
-    /** The yard is one for trials: the umpire's grudge is tried out on it. */
-    Turns(Yard trial, Law byLaw) {
-      yard = trial;
-      law = byLaw;
-    }
-
-    void begin(int match) {
+    /** The umpire's grudge is tried out on a yard that is there for this alone. */
+    void begin(int match, Yard now) {
+      yard.copyAll(now);
       abu = match;
       grudge = yard.numberOf(match % 10, GRUDGE);
       for (int i = 0; i < oddsBy.length; i++) {
@@ -1123,10 +1112,10 @@ public final class UmpireLost {
       }
     }
 
-    int bestFirst(int turns) {
+    int bestFirst(int turns, Law law) {
       int best = NOTHING, most = -1;
       for (int i = 0; i < MOVES; i++) {
-        int odds = best(moved(grudge, FIRST_LIKED[i]), turns - 1, false);
+        int odds = best(moved(grudge, FIRST_LIKED[i]), turns - 1, false, law);
         if (odds > most) {
           most = odds;
           best = FIRST_LIKED[i];
@@ -1135,17 +1124,17 @@ public final class UmpireLost {
       return best;
     }
 
-    int bestOdds(int turns) {
-      return best(grudge, turns, true);
+    int bestOdds(int turns, Law law) {
+      return best(grudge, turns, true, law);
     }
 
-    private int best(int from, int turns, boolean onesTurn) {
+    private int best(int from, int turns, boolean onesTurn, Law law) {
       if (turns <= 0 || turns > MOST_TURNS) {
-        return oddsAt(from);
+        return oddsAt(from, law);
       }
       int best = onesTurn ? 0 : TWELVE;
       for (int move = 0; move < MOVES; move++) {
-        int odds = best(moved(from, move), turns - 1, !onesTurn);
+        int odds = best(moved(from, move), turns - 1, !onesTurn, law);
         best = onesTurn ? Math.max(best, odds) : Math.min(best, odds);
       }
       return best;
@@ -1159,7 +1148,7 @@ public final class UmpireLost {
     }
 
     /** Few grudges come up, each of them often. */
-    private int oddsAt(int umpiresGrudge) {
+    private int oddsAt(int umpiresGrudge, Law law) {
       if (umpiresGrudge < 0 || umpiresGrudge >= oddsBy.length) {
         return 0;
       }

@@ -87,6 +87,10 @@ public final class LanguageTest {
         check(isFace || !publicNames.contains(method.getName()), method + " bears a public one's name");
       }
       check(each == UmpireLost.class || Modifier.isStatic(each.getModifiers()), each + " is not static");
+      // So no constructor hands out a part of what is being made.
+      for (Constructor<?> constructor : each.getDeclaredConstructors()) {
+        check(constructor.getParameterCount() == 0, constructor + " takes something");
+      }
     }
   }
 

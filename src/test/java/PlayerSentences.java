@@ -344,6 +344,10 @@ final class PlayerSentences extends Sentences {
     laws("0+".repeat(59) + "8", 8);
     laws("0+".repeat(59) + "12", 12);
     laws("!0" + "+0".repeat(57) + "+7-1", 7);
+    UmpireLost z = many(3);
+    laws(z, "!0" + "+0".repeat(57) + "+7-1", 7);
+    laws(z, "!0" + "+0".repeat(57) + "+8-1", 8);
+    laws(z, "!0" + "+0".repeat(57) + "+9-1", 9);
     fault("0+".repeat(60), 120);
     fault("0+".repeat(59) + "1x", 119);
     fault("x" + "0".repeat(119), 0);
