@@ -72,6 +72,8 @@ final class ResultSentences extends Sentences {
     orderIs("eleven against nine", withRow(many(2), twos(11, 1, 0, twos(19, 0, 1))), 9, 1, 0);
     orderIs("twenty passed over, and a twenty-first", withRow(many(2), twos(20, 1, 1, 1, 0)), 0, 0, 1);
     orderIs("nineteen passed over, and a twentieth", withRow(many(2), twos(19, 1, 1, 1, 0)), 0, 1, 0);
+    orderIs("eighteen of 8 against 9, two of 9 against 8", withRow(many(10), twos(18, 8, 9, 9, 8, 9, 8)), 2, 0, 1, 2, 3, 4, 5, 6, 7, 8, 9);
+    orderIs("eighteen of 9 against 8, two of 8 against 9", withRow(many(10), twos(18, 9, 8, 8, 9, 8, 9)), 2, 0, 1, 2, 3, 4, 5, 6, 7, 9, 8);
     orderIs("all twenty of one against another", withRow(many(10), twos(20, 9, 8)), 0, 0, 1, 2, 3, 4, 5, 6, 7, 9, 8);
   }
 
